@@ -51,7 +51,7 @@ public final class ModelTest {
     }
 
     private boolean goOn() throws Exception {
-        if (random.nextInt(10) > 0 && !tell("ss40,12,9;cc0,60,9,20;t9,9;sn70,20,3;")) {
+        if (random.nextInt(10) > 0 && !tell(aFirstRoom())) {
             return false;
         }
         while (calls < CALLS) {
@@ -170,11 +170,23 @@ public final class ModelTest {
         return a;
     }
 
+    /** Two sleepers and three clocks between them, with no fault, so that most runs have mornings to ask about. */
+    private String aFirstRoom() {
+        StringBuilder b = new StringBuilder();
+        statement(b, 's', false);
+        statement(b, 's', false);
+        for (int i = 0; i < 3; i++) {
+            statement(b, 'c', false);
+        }
+        statement(b, "tbf".charAt(random.nextInt(3)), false);
+        return b.toString();
+    }
+
     private String aRoom() {
         StringBuilder b = new StringBuilder();
         int many = random.nextInt(6) + 1;
         for (int i = 0; i < many; i++) {
-            statement(b);
+            statement(b, "sssscccccctttbf".charAt(random.nextInt(15)), random.nextInt(25) == 0);
         }
         if (random.nextInt(5) == 0) {
             spoil(b);
@@ -182,9 +194,8 @@ public final class ModelTest {
         return random.nextInt(60) == 0 ? "" : b.toString();
     }
 
-    private void statement(StringBuilder b) {
-        boolean wild = random.nextInt(25) == 0;
-        switch ("sssscccccctttbf".charAt(random.nextInt(15))) {
+    private void statement(StringBuilder b, char sort, boolean wild) {
+        switch (sort) {
             case 's':
                 b.append('s').append("sldobn".charAt(random.nextInt(6)));
                 int round = 20 + random.nextInt(80) - (wild ? random.nextInt(25) : 0);

@@ -483,7 +483,7 @@ public final class PromiseTest {
 
     private static void cost() {
         NineMinutesMore x = roomOf("t20,30;t45,60;t6,9;t15,5;");
-        int[][] want = {{0, 0}, {114, 5}, {129, 9}, {130, 0}, {155, 16}, {194, 9}, {200, 0}, {299, 0}};
+        int[][] want = {{0, 0}, {113, 0}, {114, 5}, {129, 9}, {130, 0}, {155, 16}, {194, 9}, {200, 0}, {299, 0}};
         for (int[] w : want) {
             due("cost(" + w[0] + ")", x.cost(w[0]), w[1]);
         }
@@ -513,6 +513,10 @@ public final class PromiseTest {
         bad.tired(9);
         due("evening below 0", bad.evening(0, 1), -13);
         due("evening below 0: EVERY", bad.evening(0, 3), 25 - 63);
+        // 299 is 13 ROUNDS of 23: only there he is UP at 29 tens and not deep
+        NineMinutesMore last = roomOf("ss23,20,0;cw0,100,10,30;b299;");
+        due("evening SET 299", last.evening(0, 0), 299);
+        due("evening VALUE 299", last.evening(0, 1), 29);
         NineMinutesMore y = roomOf(PRESSER);
         // EVERY 20: 100, 120, 140, 160 PRESSED, UP at 180
         due("evening best EVERY", y.evening(0, 2), 20);
@@ -524,6 +528,8 @@ public final class PromiseTest {
         refusals("evening", y, 2, 2, 0, 0, 0);
         NineMinutesMore two = roomOf("ss50,0,0;sd50,0,0;cw0,30,10,5;cw1,100,10,5;");
         due("evening by its own SLEEPER", two.evening(1, 1), 20 - 4);
+        two.bus(250);
+        due("evening by the BUS as it is now", two.evening(0, 0), 250);
     }
 
     private static void often() {
